@@ -1,0 +1,77 @@
+import java.nio.charset.StandardCharsets;
+
+/** What all tests share: answers that are due, and texts fed to a town. */
+final class Due {
+    private static int checks = 0;
+    private static int wrong = 0;
+
+    private Due() { }
+
+    static void is(String call, long got, long want) {
+        checks++;
+        if (got != want) {
+            wrong++;
+            System.out.println(call + " answered " + got + ", due is " + want);
+        }
+    }
+
+    static void leave() {
+        System.out.println(checks + " answers, " + wrong + " not as due");
+        if (wrong != 0) {
+            System.exit(1);
+        }
+    }
+
+    /** Puts a text on the tape in place of what stands there. */
+    static void tape(LureTown x, String text) {
+        x.end(0);
+        byte[] bytes = text.getBytes(StandardCharsets.ISO_8859_1);
+        for (int i = 0; i < bytes.length; i += 20) {
+            x.feed(four(bytes, i), four(bytes, i + 4), four(bytes, i + 8), four(bytes, i + 12), four(bytes, i + 16));
+        }
+        x.end(bytes.length);
+    }
+
+    private static int four(byte[] bytes, int from) {
+        int number = 0;
+        for (int i = from; i < from + 4; i++) {
+            number = number << 8 | (i < bytes.length ? bytes[i] & 255 : 0);
+        }
+        return number;
+    }
+
+    static int town(LureTown x, String text) {
+        tape(x, text);
+        return x.town();
+    }
+
+    static int rule(LureTown x, String text) {
+        tape(x, text);
+        return x.rule();
+    }
+
+    /** What town and rule answer for a fault of a sort at a place. */
+    static int fault(int place, int sort) {
+        return -2 - (1 + 8 * place + sort);
+    }
+
+    static LureTown townOf(String text) {
+        LureTown x = new LureTown();
+        town(x, text);
+        return x;
+    }
+
+    static void townFault(String text, int place, int sort) {
+        LureTown x = new LureTown();
+        is("town of '" + text + "'", town(x, text), fault(place, sort));
+        is("the tape behind a fault of '" + text + "'", x.count(13), text.length());
+        is("corners behind a fault of '" + text + "'", x.count(0), 0);
+    }
+
+    static void ruleFault(String text, int place, int sort) {
+        LureTown x = new LureTown();
+        is("rule of '" + text + "'", rule(x, text), fault(place, sort));
+        is("the tape behind a fault of '" + text + "'", x.count(13), text.length());
+        is("rules behind a fault of '" + text + "'", x.count(4), 0);
+    }
+}
