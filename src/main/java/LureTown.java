@@ -9,6 +9,8 @@ public final class LureTown {
     private static final int WALKER_LIMIT = 5;
     private static final int KIND_LIMIT = 8;
     private static final int WARY_MOST = 9;
+    private static final int GUILE_MOST = 9;
+    private static final int LEVY_MOST = 20;
     private static final int CHARGE_MOST = 999;
     private static final int STEP_MOST = 999;
 
@@ -94,6 +96,7 @@ public final class LureTown {
     private final Town draft = new Town();
     private final Rule[] rules = new Rule[RULE_LIMIT];
     private int ruleCount = 0;
+    private final Rule noRule = new Rule();
     private final Moment now = new Moment();
     private final Moment[] images = new Moment[IMAGE_LIMIT];
     private int imagesMade = 0;
@@ -781,9 +784,8 @@ public final class LureTown {
         return walker >= 0 && walker < now.place.walkerCount;
     }
 
-    /** The rule of a number, null for none. */
     private Rule ruleOf(int number) {
-        return number >= 0 && number < ruleCount ? rules[number] : null;
+        return number >= 0 && number < ruleCount ? rules[number] : noRule;
     }
 
     private Rule inForce() {
@@ -843,17 +845,17 @@ public final class LureTown {
         }
 
         private boolean digitAt(int i) {
-            return i < size && bytes[i] >= '0' && bytes[i] <= '9';
+            return bytes[i] >= '0' && bytes[i] <= '9';
         }
 
         private boolean letterAt(int i) {
-            return i < size && bytes[i] >= 'a' && bytes[i] <= 'z';
+            return bytes[i] >= 'a' && bytes[i] <= 'z';
         }
 
         private void readNumber() {
             token = TEXT_NUMBER;
             number = 0;
-            while (digitAt(reached)) {
+            while (reached < size && digitAt(reached)) {
                 if (reached - start < DIGIT_LIMIT) {
                     number = number * 10 + bytes[reached] - '0';
                 }
@@ -866,7 +868,7 @@ public final class LureTown {
         }
 
         private void readWord() {
-            while (letterAt(reached)) {
+            while (reached < size && letterAt(reached)) {
                 reached++;
             }
             token = TEXT_ODD;
@@ -907,6 +909,7 @@ public final class LureTown {
     private static final class TownReader {
         private Tape tape = new Tape();
         private Town town = new Town();
+        private final int[] numbers = new int[4];
 
         void read(Tape from, Town into) {
             tape = from;
@@ -918,23 +921,33 @@ public final class LureTown {
                 readClause(i);
                 more = tape.fault == 0 && tape.token == SIGN_NEXT;
             }
-            town.measure();
+            if (tape.fault == 0) {
+                town.measure();
+            }
         }
 
-        /** Leaves the tape at what walkerCorner behind the clause. */
+        /** Leaves the tape at what stands behind the clause. */
         private void readClause(int before) {
             tape.readToken();
             int word = tape.token;
             if (word != WORD_TOWN && word != WORD_WAY && word != WORD_LURE && word != WORD_WALKER) {
                 tape.blame(FAULT_SIGN);
-            } else if (isTooMany(word, before)) {
+                return;
+            }
+            if (isTooMany(word, before)) {
                 tape.blame(FAULT_CLAUSE);
-            } else {
-                readNumbers(word);
-                tape.readToken();
-                if (tape.token != SIGN_NEXT && tape.token != TEXT_END) {
-                    tape.blame(FAULT_SIGN);
-                }
+                return;
+            }
+            int wanted = word == WORD_TOWN ? 1 : word == WORD_WAY ? 2 : 4;
+            for (int i = 0; i < wanted && tape.fault == 0; i++) {
+                readNumber(i, leastOf(word, i), mostOf(word, i));
+            }
+            if (word == WORD_WAY && numbers[0] == numbers[1]) {
+                tape.blame(FAULT_NUMBER);
+            }
+            if (tape.fault == 0) {
+                tellTown(word);
+                readClauseEnd();
             }
         }
 
@@ -945,64 +958,54 @@ public final class LureTown {
                     || word == WORD_WALKER && town.walkerCount >= WALKER_LIMIT;
         }
 
-        private void readNumbers(int word) {
-            if (word == WORD_TOWN) {
-                int corners = readNumber(2, CORNER_LIMIT);
-                town.cornerCount = tape.fault == 0 ? corners : 0;
-            } else if (word == WORD_WAY) {
-                readWay();
-            } else if (word == WORD_LURE) {
-                readLure();
-            } else {
-                readWalker();
-            }
-        }
-
-        private void readWay() {
-            int one = readCorner();
-            int other = readCorner();
-            if (one == other) {
-                tape.blame(FAULT_NUMBER);
-            }
-            if (tape.fault == 0) {
-                town.join(one, other);
-            }
-        }
-
-        private void readLure() {
-            int corner = readCorner();
-            int kind = readNumber(0, KIND_LIMIT - 1);
-            int guile = readNumber(1, 9);
-            int levy = readNumber(1, 20);
-            if (tape.fault == 0) {
-                town.addLure(corner, kind, guile, levy);
-            }
-        }
-
-        private void readWalker() {
-            int corner = readCorner();
-            int home = readCorner();
-            int heart = readNumber(0, KIND_LIMIT - 1);
-            int wary = readNumber(0, WARY_MOST);
-            if (tape.fault == 0) {
-                town.addWalker(corner, home, heart, wary);
-            }
-        }
-
-        private int readCorner() {
-            return readNumber(0, town.cornerCount - 1);
-        }
-
-        private int readNumber(int least, int most) {
+        private void readNumber(int i, int least, int most) {
             tape.readToken();
             if (tape.token != TEXT_NUMBER) {
                 tape.blame(FAULT_SIGN);
-                return NONE;
-            }
-            if (tape.number < least || tape.number > most) {
+            } else if (tape.number < least || tape.number > most) {
                 tape.blame(FAULT_NUMBER);
+            } else {
+                numbers[i] = tape.number;
             }
-            return tape.number;
+        }
+
+        private static int leastOf(int word, int i) {
+            if (word == WORD_TOWN) {
+                return 2;
+            }
+            return word == WORD_LURE && i >= 2 ? 1 : 0;
+        }
+
+        private int mostOf(int word, int i) {
+            if (word == WORD_TOWN) {
+                return CORNER_LIMIT;
+            }
+            if (word == WORD_LURE && i > 0) {
+                return i == 1 ? KIND_LIMIT - 1 : i == 2 ? GUILE_MOST : LEVY_MOST;
+            }
+            if (word == WORD_WALKER && i > 1) {
+                return i == 2 ? KIND_LIMIT - 1 : WARY_MOST;
+            }
+            return town.cornerCount - 1;
+        }
+
+        private void tellTown(int word) {
+            if (word == WORD_TOWN) {
+                town.cornerCount = numbers[0];
+            } else if (word == WORD_WAY) {
+                town.join(numbers[0], numbers[1]);
+            } else if (word == WORD_LURE) {
+                town.addLure(numbers[0], numbers[1], numbers[2], numbers[3]);
+            } else {
+                town.addWalker(numbers[0], numbers[1], numbers[2], numbers[3]);
+            }
+        }
+
+        private void readClauseEnd() {
+            tape.readToken();
+            if (tape.token != SIGN_NEXT && tape.token != TEXT_END) {
+                tape.blame(FAULT_SIGN);
+            }
         }
     }
 
@@ -1192,7 +1195,7 @@ public final class LureTown {
         }
     }
 
-    /** A rule: of each clause its sum, then its test, operators behind what they bind. */
+    /** A rule: of each clause its sum, then its test, operators behind what they bind; no clauses: no rule. */
     private static final class Rule {
         int clauseCount = 0;
         private final int[] code = new int[TAPE_LIMIT];
@@ -1435,7 +1438,8 @@ public final class LureTown {
         }
 
         boolean wouldHave(State state, int lure, int walker) {
-            return state.isSet(lure) && state.lureKind[lure] == state.walkerHeart[walker]
+            return (state.setBits >> lure & 1) != 0
+                    && state.lureKind[lure] == state.walkerHeart[walker]
                     && lureGuile[lure] > state.walkerWary[walker];
         }
 
@@ -1457,7 +1461,7 @@ public final class LureTown {
         private final int[] goals = new int[WALKER_LIMIT];
         private final int[] words = new int[VALUE_WORDS];
         private Town town = new Town();
-        private Rule rule = null;
+        private Rule rule = new Rule();
 
         void start(Town of, Rule by, State from) {
             town = of;
@@ -1474,7 +1478,7 @@ public final class LureTown {
         /** Answers the walkers who are had, as bits. */
         int goStep() {
             for (int w = 0; w < town.walkerCount; w++) {
-                goals[w] = rule == null ? homeward(w) : ruledGoal(w);
+                goals[w] = rule.clauseCount == 0 ? homeward(w) : ruledGoal(w);
             }
             System.arraycopy(goals, 0, state.walkerCorner, 0, town.walkerCount);
             int bits = 0;
