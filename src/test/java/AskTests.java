@@ -107,6 +107,7 @@ public final class AskTests {
         Due.is("at home", x.safe(3), 0);
         x.move(0, 4);
         Due.is("home has one", x.safe(0), -2);
+        Due.is("at home, whatever lies there", x.safe(3), 0);
         x.bait(2, 0);
         x.move(0, 1);
         Due.is("neither way", x.safe(0), -2);
@@ -218,6 +219,13 @@ public final class AskTests {
         Due.is("others first", x.rests(1, 0, 1, 1), 1);
         Due.is("one rest", x.rests(0, 1, 1, 0), 1);
         Due.is("corners stay", x.lure(1, 0), 2);
+        // each has a walker of its own, one goes to 2, one to 3; at 2 and 3 neither would have more
+        x = Due.townOf("town 4;way 0 2;way 1 3;lure 0 0 5 3;lure 0 1 5 2;walker 0 2 0 0;walker 1 3 1 0");
+        Due.is("one rest", x.rests(0, 1, 1, 0), 1);
+        Due.is("corner of the one", x.rests(0, 1, 1, 1), 2);
+        Due.is("corner of the other", x.rests(0, 1, 1, 2), 3);
+        Due.is("the other way round", x.rests(1, 0, 1, 1), 3);
+        Due.is("the other way round", x.rests(1, 0, 1, 2), 2);
         // without walkers all twos rest
         x = Due.townOf("town 3;lure 0 0 5 3;lure 2 1 5 2");
         Due.is("all rest", x.rests(0, 1, 20, 0), 9);

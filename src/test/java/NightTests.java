@@ -147,6 +147,17 @@ public final class NightTests {
         Due.is("notes", x.ruled(0), 2);
         Due.is("back(0)", x.back(0), 2);
         Due.is("kind", x.lure(0, 1), 5);
+        // of two notes that can't both be, these are told and no others
+        Due.is("notes of the image", x.ruled(0), 0);
+        x.step();
+        x.note(-1, 0, 0);
+        x.note(0, 0, 0);
+        x.note(0, 0, 0);
+        Due.is("notes of their own", x.ruled(0), 3);
+        Due.is("acts", x.count(11), 1);
+        Due.is("back(0)", x.back(0), 2);
+        Due.is("nothing to be undone", x.undo(), -1);
+        Due.is("notes of the image", x.ruled(0), 0);
         Due.is("image over an image", x.image(3), 2);
         x.step();
         Due.is("back(3)", x.back(3), 2);

@@ -143,6 +143,17 @@ public final class NoteTests {
         Due.is("what 2", x.look(1, 2), -1);
         Due.is("what -1", x.look(1, -1), -1);
         Due.is("no walkers", Due.townOf("town 2").look(1, 0), -2);
+        // from the begin again, however late the notes are: behind step 1 they are at 1, behind step 2 at 2 or still at 1
+        LureTown y = Due.townOf("town 4;way 0 1;way 1 2;way 2 3;walker 0 2 0 0");
+        Due.rule(y, "go corner + 1 if corner < 2");
+        Due.rule(y, "go corner + 1");
+        y.note(1, 0, 1);
+        Due.is("behind step 1", y.look(1, 1), 3);
+        Due.is("behind step 2", y.look(2, 1), 2);
+        Due.is("behind step 3", y.look(3, 1), 1);
+        y.note(2, 0, 2);
+        Due.is("behind step 2", y.look(2, 1), 2);
+        Due.is("behind step 3", y.look(3, 1), 1);
         x = Due.townOf("town 3;way 0 1;way 0 2;walker 0 0 0 0;walker 0 0 0 0;walker 0 0 0 0");
         Due.rule(x, "go 1 if walker > 0 and corner = 1");
         Due.rule(x, "go 1 if walker = 2 and corner = 2 or walker = 1 and corner = 1");

@@ -4,6 +4,7 @@ public final class RuleTextTests {
         rulesAndForce();
         signs();
         limits();
+        anewBehindFaults();
         sums();
         tests();
         words();
@@ -83,6 +84,8 @@ public final class RuleTextTests {
         Due.ruleFault("go lure", 3, 0);
         Due.ruleFault("go Home", 3, 0);
         Due.ruleFault("go homes", 3, 0);
+        Due.ruleFault("go homez", 3, 0);
+        Due.ruleFault("go 1 if not x = 1", 12, 0);
         Due.ruleFault("go 1\u0000", 4, 0);
         Due.ruleFault("go \u00e9", 3, 0);
         Due.is("close together", Due.rule(new LureTown(), "go1if1<=1and2>=2or[not3<4];go5"), 0);
@@ -102,6 +105,7 @@ public final class RuleTextTests {
         Due.is("ten deep again", Due.rule(new LureTown(), ten + "1=1 and not 1=1]]]]]"), 0);
         Due.ruleFault(ten + "1=1 and not [1=1]]]]]]", ten.length() + 12, 2);
         Due.ruleFault(ten + "1=1 or [[", ten.length() + 8, 2);
+        Due.ruleFault("go 1 if 1+1=2 and not 2=1 and [[[[[[[[[[[", 40, 2);
         String sixty = "go 1" + "+1".repeat(59);
         Due.is("sixty values", Due.rule(new LureTown(), sixty), 0);
         Due.ruleFault(sixty + "+1", sixty.length() + 1, 3);
@@ -122,6 +126,20 @@ public final class RuleTextTests {
         Due.ruleFault(twelve + "; go 1", twelve.length() + 2, 4);
         Due.ruleFault(twelve + "; no", twelve.length() + 2, 0);
         Due.ruleFault(twelve + ";", twelve.length() + 1, 0);
+    }
+
+    /** Nothing of a text with a fault is left in the next one. */
+    private static void anewBehindFaults() {
+        LureTown x = Due.townOf("town 3;way 0 1;way 0 2;walker 0 0 0 0");
+        Due.is("a fault", Due.rule(x, "go 1 if [not [not [not [not [not 1=1+1*2"), Due.fault(40, 0));
+        Due.is("deep again", Due.rule(x, "go 1+1 if [[[[[[[[[[1=1]]]]]]]]]]"), 0);
+        Due.is("a fault", Due.rule(x, "go 1;go 2 if 1=1;go 2 if 1=1;x"), Due.fault(29, 0));
+        Due.is("a fault", Due.rule(x, "go 1" + "+1".repeat(60)), Due.fault(123, 3));
+        Due.is("long again", Due.rule(x, "go 1;go 1" + "+1".repeat(58)), 1);
+        Due.is("a fault", Due.rule(x, "go 1 if 1=2;go 2 if 1=2;go 2 if 1=2 x"), Due.fault(36, 0));
+        Due.is("without tests", Due.rule(x, "go corner;go 9"), 2);
+        x.force(2);
+        Due.is("by its first clause", x.ahead(0, 1, 0), 2);
     }
 
     /** Where the walker of a town with ways from 1 to 0 and 2 goes by a rule. */
@@ -147,6 +165,7 @@ public final class RuleTextTests {
         goes("go 9 - corner - corner", 0);
         goes("go 7 / corner", 1);
         goes("go 7 % corner", 2);
+        goes("go 1 if 7 / corner = 0 and 7 % corner = 0 and corner = 0", 0);
         goes("go 8 / 3 * 3 - 5 - corner", 0);
         goes("go 2 * 3 + 4 * corner", 2);
         // 64 bits go round: 65536 to the fourth is nothing
@@ -162,6 +181,10 @@ public final class RuleTextTests {
         goes("go 1 if corner = 2", 2);
         goes("go 1 if corner > 1", 2);
         goes("go 1 if corner >= 1", 1);
+        goes("go 1 if corner >= 2", 2);
+        goes("go 1 if corner <= 2 and corner >= 2", 2);
+        goes("go 1 if corner <= 1 and corner > 0", 1);
+        goes("go 2 if not corner <= 1;go 1 if not corner >= 1", 2);
         goes("go 3 - corner if corner < 0 or corner > 0", 1);
         goes("go corner if corner <= 1", 1);
         goes("go corner + 1 if corner < 1", 0);

@@ -3,6 +3,7 @@ public final class TownTextTests {
     public static void main(String[] args) {
         whatIsTold();
         whatStays();
+        anewBehindFaults();
         signs();
         numbers();
         clauses();
@@ -68,12 +69,29 @@ public final class TownTextTests {
         Due.is("notes", x.count(10), 1);
     }
 
+    /** Nothing of a text with a fault is left in the next one. */
+    private static void anewBehindFaults() {
+        LureTown x = new LureTown();
+        Due.is("a fault", Due.town(x, "town 3;way 0 1;way 0 2;lure 0 0 1 1;walker 0 0 0 0;x"), Due.fault(51, 0));
+        Due.is("anew", Due.town(x, "town 3;way 1 2;walker 1 2 3 4"), 1);
+        int[] counts = {3, 1, 0, 1, 0, -1, 0, 0, 0, 0, 0, 0, 0, 0};
+        for (int i = 0; i < counts.length; i++) {
+            Due.is("anew count(" + i + ")", x.count(i), counts[i]);
+        }
+        Due.is("ways(0)", x.ways(0), 0);
+        Due.is("ways(1)", x.ways(1), 4);
+        Due.is("far", x.far(0), 1);
+        Due.is("a way without town", Due.town(x, "way 0 1"), Due.fault(0, 4));
+        Due.is("corners stay", x.count(0), 3);
+    }
+
     private static void signs() {
         Due.townFault("", 0, 0);
         Due.townFault("   ", 3, 0);
         Due.townFault("town", 4, 0);
         Due.townFault("town ", 5, 0);
         Due.townFault("towns 2", 0, 0);
+        Due.townFault("townz 2", 0, 0);
         Due.townFault("Town 2", 0, 0);
         Due.townFault(" tow 2", 1, 0);
         Due.townFault("2", 0, 0);
