@@ -359,10 +359,12 @@ public final class LureTown {
             return NONE;
         }
         int bits = goTillHad((1 << WALKER_LIMIT) - 1);
-        if (bits == 0) {
-            return -2;
+        for (int w = 0; w < WALKER_LIMIT; w++) {
+            if ((bits >> w & 1) != 0) {
+                return what == 0 ? course.state.steps - 1 : w;
+            }
         }
-        return what == 0 ? course.state.steps - 1 : Integer.numberOfTrailingZeros(bits);
+        return -2;
     }
 
     /** Goes on till one of these walkers is had; answers who is had then, 0 if nobody is in time. */

@@ -45,8 +45,26 @@ public final class ModelTests {
         return oneOf(12) ? least - 1 + upTo(1) * (most - least + 2) : least + upTo(most - least);
     }
 
+    private int mostly(int size, int limit) {
+        return oneOf(8) ? near(0, limit) : upTo(Math.max(0, size - 1));
+    }
+
+    private int aLure() {
+        return mostly(model.now.lures.size(), 5);
+    }
+
+    private int aWalker() {
+        return mostly(model.now.walkers.size(), 4);
+    }
+
+    private int aCorner() {
+        return mostly(model.now.corners, 7);
+    }
+
     private void run(int run) {
-        tell(townText(), true, run);
+        for (int i = 0; i < 4 && !model.isTown(); i++) {
+            tell(townText(), true, run);
+        }
         for (int i = upTo(3); i > 0; i--) {
             tell(ruleText(), false, run);
         }
@@ -93,13 +111,17 @@ public final class ModelTests {
         StringBuilder s = new StringBuilder("town " + corners);
         int clauses = oneOf(12) ? 36 + upTo(6) : 3 + upTo(18);
         String[] gaps = oneOf(4) ? new String[] {" ", "  ", " "} : new String[] {" "};
+        int kinds = oneOf(3) ? 7 : upTo(2);
+        for (int i = 0; i < corners && oneOf(2) && clauses < 30; i++) {
+            s.append(";way ").append(i).append(' ').append((i + 1) % corners);
+        }
         for (int i = 0; i < clauses; i++) {
             s.append(";");
             int sort = clauses > 30 ? oneOf(9) ? 0 : 9 : random.nextInt(10);
-            if (sort < 2) {
-                s.append("lure " + upTo(corners - 1) + pick(gaps) + upTo(oneOf(3) ? 7 : 2) + " " + (1 + upTo(8)) + pick(gaps) + (1 + upTo(19)));
-            } else if (sort < 4) {
-                s.append("walker " + upTo(corners - 1) + pick(gaps) + upTo(corners - 1) + " " + upTo(oneOf(3) ? 7 : 2) + " " + upTo(oneOf(3) ? 9 : 4));
+            if (sort < 3) {
+                s.append("lure " + upTo(corners - 1) + pick(gaps) + upTo(kinds) + " " + (1 + upTo(8)) + pick(gaps) + (1 + upTo(19)));
+            } else if (sort < 5) {
+                s.append("walker " + upTo(corners - 1) + pick(gaps) + upTo(corners - 1) + " " + upTo(kinds) + " " + upTo(oneOf(3) ? 9 : 4));
             } else {
                 int a = upTo(corners - 1);
                 int b = oneOf(40) ? a : (a + 1 + random.nextInt(corners - 1)) % corners;
@@ -172,35 +194,35 @@ public final class ModelTests {
             }
             case 1 -> tell(ruleText(), false, run);
             case 2 -> { a = near(-1, model.rules.size()); check(run, "force " + a, town.force(a), model.force(a)); }
-            case 3 -> { a = near(0, 5); b = near(0, 4); check(run, "lure " + a + " " + b, town.lure(a, b), model.lure(a, b)); }
-            case 4 -> { a = near(0, 4); b = near(0, 4); check(run, "walker " + a + " " + b, town.walker(a, b), model.walker(a, b)); }
-            case 5 -> { a = near(0, 7); check(run, "ways " + a, town.ways(a), model.ways(a)); }
+            case 3 -> { a = aLure(); b = near(0, 4); check(run, "lure " + a + " " + b, town.lure(a, b), model.lure(a, b)); }
+            case 4 -> { a = aWalker(); b = near(0, 4); check(run, "walker " + a + " " + b, town.walker(a, b), model.walker(a, b)); }
+            case 5 -> { a = aCorner(); check(run, "ways " + a, town.ways(a), model.ways(a)); }
             case 6, 7, 8, 9 -> check(run, "step", town.step(), model.step());
-            case 10, 11 -> { a = near(0, 5); b = near(0, 7); check(run, "set " + a + " " + b, town.set(a, b), model.set(a, b)); }
-            case 12 -> { a = near(0, 5); b = near(0, 7); check(run, "move " + a + " " + b, town.move(a, b), model.move(a, b)); }
-            case 13 -> { a = near(0, 5); b = near(0, 7); check(run, "bait " + a + " " + b, town.bait(a, b), model.bait(a, b)); }
-            case 14 -> { a = near(0, 4); b = near(0, 9); check(run, "calm " + a + " " + b, town.calm(a, b), model.calm(a, b)); }
+            case 10, 11 -> { a = aLure(); b = aCorner(); check(run, "set " + a + " " + b, town.set(a, b), model.set(a, b)); }
+            case 12 -> { a = aLure(); b = aCorner(); check(run, "move " + a + " " + b, town.move(a, b), model.move(a, b)); }
+            case 13 -> { a = aLure(); b = near(0, 7); check(run, "bait " + a + " " + b, town.bait(a, b), model.bait(a, b)); }
+            case 14 -> { a = aWalker(); b = near(0, 9); check(run, "calm " + a + " " + b, town.calm(a, b), model.calm(a, b)); }
             case 15, 16 -> check(run, "undo", town.undo(), model.undo());
-            case 17 -> { a = near(0, 4); n = near(0, 100); b = near(0, 2); check(run, "ahead " + a + " " + n + " " + b, town.ahead(a, n, b), model.ahead(a, n, b)); }
-            case 18 -> { a = near(0, 4); check(run, "had " + a + " " + what, town.had(a, what), model.had(a, what)); }
+            case 17 -> { a = aWalker(); n = near(0, 100); b = near(0, 2); check(run, "ahead " + a + " " + n + " " + b, town.ahead(a, n, b), model.ahead(a, n, b)); }
+            case 18 -> { a = aWalker(); check(run, "had " + a + " " + what, town.had(a, what), model.had(a, what)); }
             case 19 -> check(run, "first " + what, town.first(what), model.first(what));
-            case 20 -> { a = near(0, 4); check(run, "far " + a, town.far(a), model.far(a)); }
-            case 21 -> { a = near(0, 4); check(run, "safe " + a, town.safe(a), model.safe(a)); }
-            case 22 -> { a = near(0, 4); check(run, "stuck " + a, town.stuck(a), model.stuck(a)); }
-            case 23 -> { a = near(0, 5); n = near(1, 40); check(run, "best " + a + " " + n + " " + what, town.best(a, n, what), model.best(a, n, what)); }
-            case 24 -> { a = near(0, 5); n = near(1, 40); check(run, "kind " + a + " " + n + " " + what, town.kind(a, n, what), model.kind(a, n, what)); }
+            case 20 -> { a = aWalker(); check(run, "far " + a, town.far(a), model.far(a)); }
+            case 21 -> { a = aWalker(); check(run, "safe " + a, town.safe(a), model.safe(a)); }
+            case 22 -> { a = aWalker(); check(run, "stuck " + a, town.stuck(a), model.stuck(a)); }
+            case 23 -> { a = aLure(); n = near(1, 40); check(run, "best " + a + " " + n + " " + what, town.best(a, n, what), model.best(a, n, what)); }
+            case 24 -> { a = aLure(); n = near(1, 40); check(run, "kind " + a + " " + n + " " + what, town.kind(a, n, what), model.kind(a, n, what)); }
             case 25 -> check(run, "cover " + what, town.cover(what), model.cover(what));
-            case 26 -> { a = near(0, 4); check(run, "hearts " + a, town.hearts(a), model.hearts(a)); }
-            case 27 -> { a = near(0, 4); check(run, "waries " + a, town.waries(a), model.waries(a)); }
+            case 26 -> { a = aWalker(); check(run, "hearts " + a, town.hearts(a), model.hearts(a)); }
+            case 27 -> { a = aWalker(); check(run, "waries " + a, town.waries(a), model.waries(a)); }
             case 28 -> {
-                a = near(0, 5);
-                b = near(0, 5);
+                a = aLure();
+                b = aLure();
                 n = oneOf(4) ? near(1, 20) : 1 + upTo(4);
                 what = near(0, 2);
                 check(run, "rests " + a + " " + b + " " + n + " " + what, town.rests(a, b, n, what), model.rests(a, b, n, what));
             }
             case 29 -> check(run, "ring " + what, town.ring(what), model.ring(what));
-            case 30, 31 -> { n = near(0, 9999); a = near(0, 4); check(run, "pence " + n + " " + a, town.pence(n, a), model.pence(n, a)); }
+            case 30, 31 -> { n = near(0, 9999); a = aWalker(); check(run, "pence " + n + " " + a, town.pence(n, a), model.pence(n, a)); }
             case 32, 33, 34 -> note(run);
             case 35 -> check(run, "ruled " + what, town.ruled(what), model.ruled(what));
             case 36 -> { n = near(0, 60); check(run, "look " + n + " " + what, town.look(n, what), model.look(n, what)); }
@@ -221,8 +243,8 @@ public final class ModelTests {
     /** Often a note that is so, else all runs would end with notes that nothing can meet. */
     private void note(int run) {
         int n = oneOf(12) ? -1 : near(0, oneOf(3) ? 60 : 6);
-        int walker = near(0, 4);
-        int corner = near(0, 7);
+        int walker = aWalker();
+        int corner = aCorner();
         if (!oneOf(4) && n >= 0 && n <= 60 && model.isWalker(walker)) {
             corner = Model.after(model.told, model.ruleOf(upTo(model.rules.size()) - 1), n).walkers.get(walker).corner;
         }
