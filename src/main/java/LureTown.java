@@ -514,42 +514,34 @@ public final class LureTown {
         if (!hasSetLure(lure) || n < 1 || n > BEST_STEPS || what < 0 || what > 1) {
             return NONE;
         }
-        int which = now.state.lureCorner[lure];
-        altered.copyFrom(now.state);
-        int most = chargesBehind(n);
-        for (int c = 0; c < now.place.cornerCount; c++) {
-            altered.lureCorner[lure] = c;
-            int much = chargesBehind(n);
-            if (much > most) {
-                most = much;
-                which = c;
-            }
-        }
-        return what == 0 ? which : most;
+        return bestOf(altered.lureCorner, now.place.cornerCount, lure, n, what);
     }
 
     public int kind(int lure, int n, int what) {
         if (!hasSetLure(lure) || n < 1 || n > BEST_STEPS || what < 0 || what > 1) {
             return NONE;
         }
-        int which = now.state.lureKind[lure];
+        return bestOf(altered.lureKind, KIND_LIMIT, lure, n, what);
+    }
+
+    /** Tries all choices in a row of what is altered; how it is comes first, so that it wins when others are no better. */
+    private int bestOf(int[] row, int choices, int lure, int n, int what) {
         altered.copyFrom(now.state);
-        int most = chargesBehind(n);
-        for (int k = 0; k < KIND_LIMIT; k++) {
-            altered.lureKind[lure] = k;
-            int much = chargesBehind(n);
+        int which = NONE;
+        int most = NONE;
+        for (int choice = NONE; choice < choices; choice++) {
+            if (choice != NONE) {
+                row[lure] = choice;
+            }
+            course.start(now.place, inForce(), altered);
+            course.goSteps(n);
+            int much = course.state.allCharges(now.place.walkerCount);
             if (much > most) {
                 most = much;
-                which = k;
+                which = row[lure];
             }
         }
         return what == 0 ? which : most;
-    }
-
-    private int chargesBehind(int n) {
-        course.start(now.place, inForce(), altered);
-        course.goSteps(n);
-        return course.state.allCharges(now.place.walkerCount);
     }
 
     public int rests(int one, int other, int n, int what) {
@@ -640,30 +632,21 @@ public final class LureTown {
     }
 
     public int hearts(int walker) {
-        if (!hasWalker(walker)) {
-            return NONE;
-        }
-        int bits = 0;
-        altered.copyFrom(now.place.told);
-        for (int heart = 0; heart < KIND_LIMIT; heart++) {
-            altered.walkerHeart[walker] = heart;
-            if (notesAreSo(inForce(), altered)) {
-                bits |= 1 << heart;
-            }
-        }
-        return bits;
+        return hasWalker(walker) ? choicesThatAreSo(altered.walkerHeart, KIND_LIMIT, walker) : NONE;
     }
 
     public int waries(int walker) {
-        if (!hasWalker(walker)) {
-            return NONE;
-        }
+        return hasWalker(walker) ? choicesThatAreSo(altered.walkerWary, WARY_MOST + 1, walker) : NONE;
+    }
+
+    /** The choices in a row of what is altered by which all notes are so, as bits. */
+    private int choicesThatAreSo(int[] row, int choices, int walker) {
         int bits = 0;
         altered.copyFrom(now.place.told);
-        for (int wary = 0; wary <= WARY_MOST; wary++) {
-            altered.walkerWary[walker] = wary;
+        for (int choice = 0; choice < choices; choice++) {
+            row[walker] = choice;
             if (notesAreSo(inForce(), altered)) {
-                bits |= 1 << wary;
+                bits |= 1 << choice;
             }
         }
         return bits;
@@ -864,7 +847,7 @@ public final class LureTown {
                 reached++;
             }
             if (reached - start > DIGIT_LIMIT) {
-                // no number of any clause is below 0, so this one is refused wherever it walkerCorner
+                // no number of any clause is below 0, so this one is refused wherever it stands
                 number = NONE;
             }
         }
@@ -1011,7 +994,7 @@ public final class LureTown {
         }
     }
 
-    /** Reads the text of a rule: operators are held till what they bind walkerCorner in the rule's code. */
+    /** Reads the text of a rule: operators are held till what they bind stands in the rule's code. */
     private static final class RuleReader {
         private static final int WANT_CLAUSE = 0;
         private static final int WANT_FACT = 1;
@@ -1019,7 +1002,7 @@ public final class LureTown {
         private static final int WANT_MORE = 3;
         private static final int WANT_NOTHING = 4;
 
-        /** What the last value walkerCorner in; a closed bracket takes no more operators. */
+        /** What the last value stands in; a closed bracket takes no more operators. */
         private static final int IN_GO = 0;
         private static final int IN_LEFT = 1;
         private static final int IN_RIGHT = 2;
