@@ -8,6 +8,7 @@ public final class ActTests {
         allAtOnce();
         had();
         most();
+        lastStep();
         set();
         move();
         bait();
@@ -115,6 +116,23 @@ public final class ActTests {
         Due.is("wary at most", x.walker(0, 3), 9);
         x.set(0, 0);
         Due.is("never more than 9", x.step(), 0);
+    }
+
+    /** More calls than an object is used for; the class keeps the bound all the same. */
+    private static void lastStep() {
+        LureTown x = Due.townOf("town 2;way 0 1;lure 1 0 9 4;walker 0 0 0 0");
+        Due.rule(x, "go 1 if step = 1001 and corner = 1");
+        x.force(0);
+        for (int i = 0; i < 999; i++) {
+            x.step();
+        }
+        Due.is("STEP", x.count(6), 999);
+        Due.is("no step more by hand", x.step(), -1);
+        Due.is("STEP", x.count(6), 999);
+        Due.is("what is asked goes on", x.had(0, 0), 1001);
+        Due.is("undo", x.undo(), 19);
+        Due.is("STEP", x.count(6), 998);
+        Due.is("step", x.step(), 0);
     }
 
     private static void set() {
