@@ -157,10 +157,11 @@ public final class LureTown {
             return NONE;
         }
         ruleReader.read(tape, rules[ruleCount]);
+        // unlike a town's, a rule's fault takes nothing back: the tape is empty either way
+        tape.size = 0;
         if (tape.fault != 0) {
             return -2 - tape.fault;
         }
-        tape.size = 0;
         ruleCount++;
         return ruleCount - 1;
     }

@@ -71,7 +71,7 @@ final class Due {
     static void ruleFault(String text, int place, int sort) {
         LureTown x = new LureTown();
         is("rule of '" + text + "'", rule(x, text), fault(place, sort));
-        is("the tape behind a fault of '" + text + "'", x.count(13), text.length());
+        is("the tape behind a fault of '" + text + "'", x.count(13), 0);
         is("rules behind a fault of '" + text + "'", x.count(4), 0);
     }
 }

@@ -380,12 +380,13 @@ final class Model {
 
     int rule() {
         if (rules.size() == 6) return -1;
+        String text = tape;
+        tape = "";
         try {
-            rules.add(new RuleParser(tape).read());
+            rules.add(new RuleParser(text).read());
         } catch (Fault f) {
             return -2 - f.number;
         }
-        tape = "";
         return rules.size() - 1;
     }
 

@@ -90,6 +90,7 @@ public final class ModelTests {
         } else {
             check(run, "rule '" + text + "'", town.rule(), model.rule());
         }
+        check(run, "the tape behind '" + text + "'", town.count(13), model.count(13));
     }
 
     private String cut(StringBuilder text) {

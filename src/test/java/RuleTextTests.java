@@ -4,6 +4,7 @@ public final class RuleTextTests {
         rulesAndForce();
         signs();
         limits();
+        tapeBehindFaults();
         anewBehindFaults();
         sums();
         tests();
@@ -25,6 +26,7 @@ public final class RuleTextTests {
         Due.is("the tape stays", x.count(13), 4);
         Due.tape(x, "no");
         Due.is("a seventh with a fault", x.rule(), -1);
+        Due.is("the tape stays with a fault", x.count(13), 2);
         Due.is("rules", x.count(4), 6);
         Due.is("force(5)", x.force(5), -1);
         Due.is("force(6)", x.force(6), -2);
@@ -126,6 +128,22 @@ public final class RuleTextTests {
         Due.ruleFault(twelve + "; go 1", twelve.length() + 2, 4);
         Due.ruleFault(twelve + "; no", twelve.length() + 2, 0);
         Due.ruleFault(twelve + ";", twelve.length() + 1, 0);
+    }
+
+    /** A rule's fault empties the tape; a town's does not. */
+    private static void tapeBehindFaults() {
+        LureTown x = new LureTown();
+        Due.is("a fault of a whole tape", Due.rule(x, "go 1" + " ".repeat(395) + "x"), Due.fault(399, 0));
+        Due.is("no tape", x.count(13), 0);
+        Due.is("nothing to keep", x.end(1), -1);
+        Due.is("nothing to read", x.rule(), Due.fault(0, 0));
+        Due.is("feed starts anew", x.feed(0x676f2031, 0x20202020, 0x20202020, 0x20202020, 0x20202020), 20);
+        Due.is("a rule of its own", x.rule(), 0);
+        Due.is("a town told as a rule", Due.rule(x, "town 2"), Due.fault(0, 0));
+        Due.is("no town is left of it", x.town(), Due.fault(0, 0));
+        Due.is("a rule told as a town", Due.town(x, "go 2"), Due.fault(0, 0));
+        Due.is("its tape stays", x.count(13), 4);
+        Due.is("it is a rule still", x.rule(), 1);
     }
 
     /** Nothing of a text with a fault is left in the next one. */
