@@ -1,17 +1,51 @@
+import java.io.IOException;
 import java.nio.charset.StandardCharsets;
+import java.nio.file.Files;
+import java.nio.file.Path;
 
 /** What all tests share: answers that are due, and texts fed to a town. */
 final class Due {
+    private static final Path DOCUMENT = Path.of("../shared/DOC.md");
+    private static final String DOCUMENT_TEXT = documentText();
     private static int checks = 0;
     private static int wrong = 0;
+    private static String words = "";
 
     private Due() { }
+
+    private static String documentText() {
+        try {
+            return Files.isReadable(DOCUMENT) ? plain(Files.readString(DOCUMENT)) : "";
+        } catch (IOException e) {
+            return "";
+        }
+    }
+
+    private static String plain(String text) {
+        return text.replaceAll("\\s+", " ");
+    }
+
+    /** The words of the document that the checks from here on are for; what they quote must stand there. */
+    static void words(String quoted) {
+        words = "\"" + quoted + "\": ";
+        if (!DOCUMENT_TEXT.isEmpty()) {
+            is("stands in the document", DOCUMENT_TEXT.contains(plain(quoted)) ? 1 : 0, 1);
+        }
+    }
 
     static void is(String call, long got, long want) {
         checks++;
         if (got != want) {
             wrong++;
-            System.out.println(call + " answered " + got + ", due is " + want);
+            System.out.println(words + call + " answered " + got + ", due is " + want);
+        }
+    }
+
+    static void same(String call, String got, String want) {
+        checks++;
+        if (!got.equals(want)) {
+            wrong++;
+            System.out.println(words + call + " shows\n  " + got + "\n, due is\n  " + want);
         }
     }
 
