@@ -267,8 +267,11 @@ public final class CallEdgeTests {
         Due.rule(x, "go 9 if corner=1;go 2*[");
         Due.is("as plain", Due.rule(x, "go corner"), 2);
         Due.rule(x, "go 9 if corner=1 or not");
+        Due.rule(x, "go 9 if not");
         Due.is("as straight", Due.rule(x, "go corner"), 3);
-        for (int r = 0; r < 4; r++) {
+        Due.rule(x, "go 9 if not corner=1 and x");
+        Due.is("as short", Due.rule(x, "go corner if 1=1"), 4);
+        for (int r = 0; r < 5; r++) {
             x.force(r);
             Due.is("to 2 by rule " + r, x.ahead(0, 1, 0), 2);
         }
